@@ -1,0 +1,98 @@
+/** Counts what the tests find, and writes routes on the pad for them. */
+final class Check {
+    private static int right = 0;
+    private static int wrong = 0;
+
+    private Check() {
+    }
+
+    static void due(String call, long got, long want) {
+        if (got == want) {
+            right++;
+            return;
+        }
+        wrong++;
+        System.out.println(call + " answered " + got + ", due is " + want);
+    }
+
+    static void same(String what, String got, String want) {
+        if (got.equals(want)) {
+            right++;
+            return;
+        }
+        wrong++;
+        System.out.println(what + ": " + got + ", due is " + want);
+    }
+
+    static void end(String test) {
+        System.out.println(test + ": " + right + " passed, " + wrong + " failed");
+        if (wrong != 0) {
+            System.exit(1);
+        }
+    }
+
+    /** The number that put takes for a text of at most 8 characters. */
+    static long number(String text) {
+        long number = 0;
+        for (int i = 0; i < text.length(); i++) {
+            number = number << 8 | text.charAt(i);
+        }
+        return number;
+    }
+
+    static void write(TrailTeams x, String text) {
+        x.wipe();
+        for (int i = 0; i < text.length(); i += 8) {
+            x.put(number(text.substring(i, Math.min(text.length(), i + 8))));
+        }
+    }
+
+    static int team(TrailTeams x, String route, int start) {
+        write(x, route);
+        return x.team(start);
+    }
+
+    /** Puts the first places at the start, with as many minutes of looking. */
+    static void gather(TrailTeams x, int places, int look) {
+        for (int place = 0; place < places; place++) {
+            x.place(place, 0, 0, look);
+        }
+    }
+
+    /** All that the questions tell, to see whether a call has changed something. */
+    static String picture(TrailTeams x) {
+        StringBuilder text = new StringBuilder();
+        for (int what = 0; what <= 12; what++) {
+            text.append(x.count(what)).append(' ');
+        }
+        text.append(x.fault()).append('|');
+        for (int place = 0; place < 8; place++) {
+            for (int what = 0; what <= 7; what++) {
+                text.append(x.placeOf(place, what)).append(' ');
+            }
+        }
+        for (int team = 0; team < x.count(3); team++) {
+            text.append('|');
+            for (int what = 0; what <= 9; what++) {
+                text.append(x.teamOf(team, what)).append(' ');
+            }
+            for (int visit = 0; visit < 8; visit++) {
+                for (int what = 0; what <= 4; what++) {
+                    text.append(x.visit(team, visit, what)).append(' ');
+                }
+            }
+        }
+        return text.toString();
+    }
+
+    /** The picture without the pad and the history, which undo and the slots leave alone. */
+    static String game(TrailTeams x) {
+        String whole = picture(x);
+        String[] counts = whole.substring(0, whole.indexOf('|')).split(" ");
+        StringBuilder text = new StringBuilder();
+        for (int what = 0; what <= 10; what++) {
+            text.append(counts[what]).append(' ');
+        }
+        return text.append(whole.substring(whole.indexOf('|'))).toString();
+    }
+}
