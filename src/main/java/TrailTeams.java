@@ -25,8 +25,8 @@ public final class TrailTeams {
     private static final int[] MOST_SETTINGS = {50, 500, 5};
     private static final int[] FIRST_SETTINGS = {10, 200, 2};
 
+    // All rows are made here, once: a call that made some would fill the room of a long run.
     private final State now = new State();
-    // All states are made here once: no call makes an object, so that long runs stay small.
     private final State trial = new State();
     private final Game game = new Game();
     private final Pad pad = new Pad();

@@ -7,6 +7,9 @@ public final class AnswersTest {
     public static void main(String[] args) {
         visit();
         visitsInAQueue();
+        theFirstTeamQueues();
+        asManyVisitsAsThereCanBe();
+        walksBothWays();
         teamOf();
         ranks();
         placeOf();
@@ -68,6 +71,48 @@ public final class AnswersTest {
         x.start(2, 0);
         Check.due("14: a place that gets free in the minute of coming", x.visit(1, 0, 2), 4);
         Check.due("14: it is free for who queues, not for who comes", x.visit(0, 1, 2), 12);
+    }
+
+    private static void theFirstTeamQueues() {
+        TrailTeams x = new TrailTeams();
+        Check.team(x, "a", 1);
+        Check.team(x, "a", 0);
+        Check.due("14: the lower number that comes later", x.visit(0, 0, 2), 5);
+        Check.due("15: it queues", x.teamOf(0, 4), 4);
+        Check.due("16: minutes of its queue", x.placeOf(0, 5), 4);
+        Check.due("16: the most as it comes", x.placeOf(0, 6), 2);
+        Check.due("19: it ends last", x.count(6), 10);
+        Check.due("19: all minutes of queues", x.count(7), 4);
+        Check.due("19: the other one wins", x.count(8), 1);
+    }
+
+    private static void asManyVisitsAsThereCanBe() {
+        TrailTeams x = new TrailTeams();
+        Check.gather(x, 8, 15);
+        for (int team = 0; team < 6; team++) {
+            Check.team(x, "a>b>c>d>e>f>g>h", 0);
+        }
+        for (int team = 0; team < 6; team++) {
+            Check.due("14: the last visit of " + team, x.visit(team, 7, 3), 15 * (8 + team));
+            Check.due("15: it queues at the first place alone", x.teamOf(team, 4), 15 * team);
+        }
+        Check.due("19: visits", x.count(10), 48);
+        Check.due("19: the last end", x.count(6), 195);
+        Check.due("19: minutes of queues", x.count(7), 225);
+        Check.due("19: pairs", x.count(5), 15);
+        Check.due("16: the most in one minute", x.placeOf(0, 6), 6);
+    }
+
+    private static void walksBothWays() {
+        TrailTeams x = new TrailTeams();
+        x.place(0, 20, 20, 5);
+        x.place(1, 18, 3, 5);
+        x.place(2, 19, 7, 5);
+        Check.team(x, "a>b>c", 0);
+        Check.due("14: from the start", x.visit(0, 0, 4), 40);
+        Check.due("14: back in x and in y", x.visit(0, 1, 4), 2 + 17);
+        Check.due("14: on in x and in y", x.visit(0, 2, 4), 1 + 4);
+        Check.due("15: minutes of walking", x.teamOf(0, 5), 64);
     }
 
     private static void teamOf() {
