@@ -6,8 +6,6 @@ public final class ChangesTest {
     private static final int TOO_MANY = -100004;
     private static final int NOT_POSSIBLE = -100005;
     private static final int NONE = -100006;
-    private static final String FORTH = "a>b>c>d>e>f>g>h";
-    private static final String BACK = "h>g>f>e>d>c>b>a";
 
     public static void main(String[] args) {
         aNewObject();
@@ -130,7 +128,7 @@ public final class ChangesTest {
         TrailTeams x = new TrailTeams();
         Check.due("5: team(0)", Check.team(x, "h", 0), 0);
         Check.due("5: pad", x.count(11), 0);
-        Check.due("5: team(200)", Check.team(x, FORTH, 200), 1);
+        Check.due("5: team(200)", Check.team(x, Scenes.FORTH, 200), 1);
         Check.due("5: start", x.teamOf(1, 0), 200);
         Check.due("5: places", x.teamOf(1, 2), 8);
         Check.due("5: count(12)", x.count(12), 2);
@@ -313,7 +311,7 @@ public final class ChangesTest {
         Check.same("11: after errors", Check.picture(x), before);
         Check.team(x, "e", 0);
         Check.due("11: turn(1, 1) of one place", x.turn(1, 1), BAD_VALUE);
-        Check.team(x, FORTH, 0);
+        Check.team(x, Scenes.FORTH, 0);
         Check.due("11: turn(2, 8)", x.turn(2, 8), BAD_VALUE);
         Check.due("11: turn(2, 7)", x.turn(2, 7), 7);
         sameRoute(x, 2, 7, 0, 1, 2, 3, 4, 5, 6);
@@ -373,9 +371,9 @@ public final class ChangesTest {
     private static void partWithoutAFreeStart() {
         TrailTeams x = new TrailTeams();
         Check.gather(x, 8, 15);
-        Check.team(x, FORTH, 7);
-        Check.team(x, BACK, 9);
-        Check.team(x, FORTH, 11);
+        Check.team(x, Scenes.FORTH, 7);
+        Check.team(x, Scenes.BACK, 9);
+        Check.team(x, Scenes.FORTH, 11);
         Check.due("13: part() with a team that is never free", x.part(), 2);
         Check.due("13: start of the first one", x.teamOf(0, 0), 0);
         Check.due("13: start of the one that turns back", x.teamOf(1, 0), 121);

@@ -1,9 +1,17 @@
 /** Counts what the tests find, and writes routes on the pad for them. */
 final class Check {
+    private static final int NONE = -100006;
+
     private static int right = 0;
     private static int wrong = 0;
+    private static String sentence = "";
 
     private Check() {
+    }
+
+    /** Names the sentence of the document that the next answers are due to. */
+    static void says(String words) {
+        sentence = words + " | ";
     }
 
     static void due(String call, long got, long want) {
@@ -12,7 +20,7 @@ final class Check {
             return;
         }
         wrong++;
-        System.out.println(call + " answered " + got + ", due is " + want);
+        System.out.println(sentence + call + " answered " + got + ", due is " + want);
     }
 
     static void same(String what, String got, String want) {
@@ -21,7 +29,11 @@ final class Check {
             return;
         }
         wrong++;
-        System.out.println(what + ": " + got + ", due is " + want);
+        System.out.println(sentence + what + ": " + got + ", due is " + want);
+    }
+
+    static void different(String what, String got, String other) {
+        due(what + ": " + got + " is another one", got.equals(other) ? 0 : 1, 1);
     }
 
     static void end(String test) {
@@ -61,6 +73,11 @@ final class Check {
 
     /** All that the questions tell, to see whether a call has changed something. */
     static String picture(TrailTeams x) {
+        return facts(x) + visits(x);
+    }
+
+    /** What count, fault, placeOf and teamOf tell. */
+    static String facts(TrailTeams x) {
         StringBuilder text = new StringBuilder();
         for (int what = 0; what <= 12; what++) {
             text.append(x.count(what)).append(' ');
@@ -71,12 +88,23 @@ final class Check {
                 text.append(x.placeOf(place, what)).append(' ');
             }
         }
-        for (int team = 0; team < x.count(3); team++) {
+        int teams = x.count(3);
+        for (int team = 0; team < teams; team++) {
             text.append('|');
             for (int what = 0; what <= 9; what++) {
                 text.append(x.teamOf(team, what)).append(' ');
             }
-            for (int visit = 0; visit < 8; visit++) {
+        }
+        return text.toString();
+    }
+
+    /** What visit tells. */
+    static String visits(TrailTeams x) {
+        StringBuilder text = new StringBuilder();
+        int teams = x.count(3);
+        for (int team = 0; team < teams; team++) {
+            text.append('/');
+            for (int visit = 0; visit <= 8 && x.visit(team, visit, 0) != NONE; visit++) {
                 for (int what = 0; what <= 4; what++) {
                     text.append(x.visit(team, visit, what)).append(' ');
                 }

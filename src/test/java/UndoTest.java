@@ -11,6 +11,7 @@ public final class UndoTest {
         undoLeavesPadAndSlots();
         save();
         restore();
+        restoreAgain();
         Check.end("UndoTest");
     }
 
@@ -158,21 +159,26 @@ public final class UndoTest {
         Check.due("29: restore(-1)", x.restore(-1), BAD_VALUE);
         Check.due("29: restore(2)", x.restore(2), BAD_VALUE);
         Check.due("29: restore(1), not saved", x.restore(1), NOT_POSSIBLE);
-        for (int number = 0; number <= 11; number++) {
-            change(x, number);
-        }
+        changeMuch(x);
         int pad = x.put(Check.number("g"));
-        String before = Check.game(x);
         Check.due("29: restore(0)", x.restore(0), 2);
         Check.same("29: state", Check.game(x), saved);
         Check.due("29: the pad stays", x.count(11), pad);
         Check.due("29: it is recorded", x.count(12), 6);
-        x.leave(0);
+    }
+
+    private static void restoreAgain() {
+        TrailTeams x = busy();
+        String saved = Check.game(x);
+        x.restore(0);
+        changeMuch(x);
         Check.due("29: the slot keeps it", x.restore(0), 2);
         Check.same("29: state again", Check.game(x), saved);
-        x.undo();
-        x.undo();
-        x.undo();
-        Check.same("29: undone", Check.game(x), before);
+    }
+
+    private static void changeMuch(TrailTeams x) {
+        for (int number = 0; number <= 11; number++) {
+            change(x, number);
+        }
     }
 }
